@@ -366,10 +366,10 @@ public final class PageDisk {
         int version = (int) known.number(sector, VERSION_AT, 2);
         switch (known.byteAt(sector, KIND_AT)) {
             case PIECE:
-                versions.takePiece(name, version, known.byteAt(sector, LENGTH_AT) - FILE_NUMBERS);
+                versions.takePiece(versions.meet(name, version), known.byteAt(sector, LENGTH_AT) - FILE_NUMBERS);
                 break;
             case END:
-                versions.takeEnd(name, version, (int) known.number(sector, COUNT_AT, 2));
+                versions.takeEnd(versions.meet(name, version), (int) known.number(sector, COUNT_AT, 2));
                 break;
             case ROW:
                 rows.add(known.byteAt(sector, CONTENT_AT), known.number(sector, VALUE_AT, 8));
@@ -498,8 +498,10 @@ public final class PageDisk {
             return sector >= 0 && sector < count && at >= 0 && at < SECTOR_BYTES;
         }
 
+        /** Looks at its index itself: through has() a start's calls would go too deep for the language's rules. */
         int byteAt(int sector, int at) {
-            return has(sector, at) ? bytes[sector * SECTOR_BYTES + at] & 255 : 0;
+            boolean there = sector >= 0 && sector < count && at >= 0 && at < SECTOR_BYTES;
+            return there ? bytes[sector * SECTOR_BYTES + at] & 255 : 0;
         }
 
         long number(int sector, int at, int width) {
@@ -549,8 +551,8 @@ public final class PageDisk {
 
         void copyFirst(Sectors from, int sector, int howMany) {
             if (has(sector, howMany - 1) && from.has(sector, howMany - 1)) {
-                int start = sector * SECTOR_BYTES;
-                System.arraycopy(from.bytes, start, bytes, start, howMany);
+                int place = sector * SECTOR_BYTES;
+                System.arraycopy(from.bytes, place, bytes, place, howMany);
             }
         }
 
@@ -647,11 +649,11 @@ public final class PageDisk {
         }
 
         int get(int i) {
-            return has(i) ? numbers[i] : NONE;
+            return i >= 0 && i < count && i < numbers.length ? numbers[i] : NONE;
         }
 
         void set(int i, int number) {
-            if (has(i)) {
+            if (i >= 0 && i < count && i < numbers.length) {
                 numbers[i] = number;
             }
         }
@@ -719,7 +721,8 @@ public final class PageDisk {
             return NONE;
         }
 
-        private int findOrAdd(int name, int version) {
+        /** Where a version stands, from now on if it was not met before. */
+        int meet(int name, int version) {
             int found = find(name, version);
             if (found != NONE) {
                 return found;
@@ -731,8 +734,7 @@ public final class PageDisk {
             return names.count - 1;
         }
 
-        void takePiece(int name, int version, int bytes) {
-            int i = findOrAdd(name, version);
+        void takePiece(int i, int bytes) {
             if (fates.get(i) != UNENDED) {
                 return;
             }
@@ -742,14 +744,13 @@ public final class PageDisk {
             }
         }
 
-        void takeEnd(int name, int version, int bytes) {
-            int i = findOrAdd(name, version);
+        void takeEnd(int i, int bytes) {
             if (fates.get(i) != UNENDED) {
                 return;
             }
             if (sizes.get(i) == bytes) {
                 fates.set(i, WHOLE);
-                wholeNames.addInOrder(name);
+                wholeNames.addInOrder(names.get(i));
                 wholeCount++;
             } else {
                 fates.set(i, TORN);

@@ -66,6 +66,17 @@ public final class DiskTest {
         bytes("head 1", disk, 1, Craft.headBytes(1, 1, 3));
     }
 
+    private static void writesOverForgottenOnes() {
+        PageDisk disk = new PageDisk(20);
+        disk.row(255, -1);
+        disk.row(255, -1);
+        disk.cut(1, 0);
+        disk.start();
+        disk.state(0, 3);
+        disk.sync();
+        bytes("what was forgotten leaves no byte", disk, 3, Craft.stateBytes(3, 2, 0, 3));
+    }
+
     private static void syncsAndLives() {
         PageDisk disk = new PageDisk(160);
         disk.row(1, 1);
@@ -163,6 +174,20 @@ public final class DiskTest {
         CHECK.same("one sector waits", disk.space(2), 1);
     }
 
+    private static void spaceWhenShut() {
+        PageDisk disk = new PageDisk(20);
+        disk.row(1, 1);
+        disk.sync();
+        disk.file(1);
+        disk.end(1);
+        disk.file(2);
+        CHECK.space("all kinds", disk, 20, 4, 1, 3, 1, 1, 1, 1, 1, 0);
+        disk.cut(0, 0);
+        CHECK.space("shut", disk, 20, 2, 0, 2, 0, 0, 0, 0, 0, 1);
+        disk.start();
+        CHECK.space("started", disk, 20, 3, 0, 3, 1, 0, 0, 2, 1, 0);
+    }
+
     private static void pokesAndLooks() {
         PageDisk disk = new PageDisk(9);
         CHECK.same("poke(0, 0, 255)", disk.poke(0, 0, 255), 255);
@@ -227,11 +252,13 @@ public final class DiskTest {
         spaceOfOthers();
         whatASyncWrites();
         headsInTurn();
+        writesOverForgottenOnes();
         syncsAndLives();
         cutsThatThrow();
         tears();
         tornHead();
         cutsForget();
+        spaceWhenShut();
         pokesAndLooks();
         wrongSectors();
         CHECK.done();

@@ -86,6 +86,38 @@ public final class FilesTest {
         CHECK.same("size", disk.size(1, 1), 100);
     }
 
+    private static void roomForRowsBesideBytes() {
+        PageDisk disk = new PageDisk(8);
+        disk.file(1);
+        CHECK.same("one byte needs a sector beside the end's", disk.append(1, (byte) 1), 1);
+        for (int row = 0; row < 3; row++) {
+            CHECK.same("row " + row, disk.row(1, row), row);
+        }
+        CHECK.same("a state that fits in just so", disk.state(0, 1), 0);
+        CHECK.same("a row more does not", disk.row(1, 9), -1);
+        CHECK.same("nor a state", disk.state(0, 2), -1);
+        CHECK.same("a byte that is no first one", disk.append(1, (byte) 2), 1);
+        CHECK.same("end(1)", disk.end(1), 1);
+        CHECK.space("full", disk, 8, 8, 6, 2, 3, 1, 0, 1, 0, 0);
+        CHECK.same("size", disk.size(1, 1), 2);
+    }
+
+    /** Beyond the 512 calls that are promised: there is no other way to so many bytes by append. */
+    private static void fullFile() {
+        PageDisk disk = new PageDisk(160);
+        disk.file(1);
+        appendMany(disk, 1, 2000);
+        CHECK.same("40 pieces wait", disk.space(2), 40);
+        CHECK.same("the 2001st byte", disk.append(1, (byte) 1), 0);
+        CHECK.same("end(1)", disk.end(1), 1);
+        CHECK.same("size", disk.size(1, 1), 2000);
+        CHECK.same("the last byte", disk.at(1, 1, 1999), (byte) (1999 * 3 - 70));
+        disk.cut(99, 0);
+        CHECK.same("start", disk.start(), 1);
+        CHECK.same("size after a start", disk.size(1, 1), 2000);
+        CHECK.same("the last byte after a start", disk.at(1, 1, 1999), (byte) (1999 * 3 - 70));
+    }
+
     private static void appendAndEnd() {
         PageDisk disk = new PageDisk(40);
         CHECK.fails("append to none", NoSuchElementException.class, () -> disk.append(4, (byte) 1));
@@ -234,6 +266,8 @@ public final class FilesTest {
         sixAtMost();
         roomForFiles();
         roomForBytes();
+        roomForRowsBesideBytes();
+        fullFile();
         appendAndEnd();
         mixedPieces();
         pokesDoNotReachWhatIsKnown();

@@ -245,11 +245,36 @@ public final class StartTest {
         disk.end(1);
         disk.sync();
         CHECK.same("size", disk.size(1, 1), 1);
+        CHECK.same("its byte is not that of the wrong sector", disk.at(1, 1, 0), 99);
         disk.poke(2, 10, 1);
         disk.cut(0, 0);
         CHECK.same("with the old piece it is torn", disk.start(), 0);
         CHECK.same("size then", disk.size(1, 1), -2);
         CHECK.same("the next version", disk.file(1), 2);
+    }
+
+    private static void versionsOfTheLatestStartAlone() {
+        PageDisk disk = new PageDisk(30);
+        Craft craft = new Craft(disk);
+        craft.end(2, 1, 4, 30, 0);
+        craft.end(3, 1, 4, 20, 0);
+        disk.cut(0, 0);
+        CHECK.same("both", disk.start(), 2);
+        CHECK.same("latest of both", disk.latest(4), 30);
+        disk.poke(2, 63, 1);
+        disk.cut(0, 0);
+        CHECK.same("none: the first is the end", disk.start(), 0);
+        CHECK.same("latest of none", disk.latest(4), 0);
+        CHECK.same("no name", disk.folder(0), -1);
+        craft.learn(2);
+        craft.end(2, 1, 6, 7, 0);
+        disk.cut(0, 0);
+        CHECK.same("two again", disk.start(), 2);
+        CHECK.same("latest(4)", disk.latest(4), 20);
+        CHECK.same("latest(6)", disk.latest(6), 7);
+        CHECK.same("an old version", disk.size(4, 30), -1);
+        CHECK.same("the first name", disk.folder(0), 4);
+        CHECK.same("the second name", disk.folder(1), 6);
     }
 
     private static void endedAlready() {
@@ -275,7 +300,7 @@ public final class StartTest {
         CHECK.same("whole versions", disk.space(5), 1);
     }
 
-    /** 40 pieces of 50 bytes fill a version; of three bytes less a call's room is saved by leaving the rest 0. */
+    /** 40 pieces of 50 bytes fill a version; all of them are 0, so that 512 calls are enough to craft them. */
     private static void manyBytes(int lastPiece, int told, int due) {
         PageDisk disk = new PageDisk(60);
         Craft craft = new Craft(disk);
@@ -287,8 +312,7 @@ public final class StartTest {
             craft.piece(next, 0, 0, 1, new int[lastPiece]);
             next++;
         }
-        int[] ending = Craft.endBytes(next, 0, 0, 1, told);
-        craft.put(next, ending);
+        craft.end(next, 0, 0, 1, told);
         disk.cut(0, 0);
         disk.start();
         String what = (2000 + lastPiece) + " bytes, " + told + " told";
@@ -323,6 +347,7 @@ public final class StartTest {
         lives(65535, 65535);
         oldSectorsBehindTheEnd();
         versionsThatWereMet();
+        versionsOfTheLatestStartAlone();
         endedAlready();
         manyBytes(0, 2000, 2000);
         manyBytes(0, 1999, -2);
