@@ -6,6 +6,14 @@ final class Check {
 
     private int asked = 0;
     private int wrong = 0;
+    private int sentences = 0;
+    private String sentence = "";
+
+    /** The sentence of the document that the answers from here on test: a failure names it. */
+    void says(String where, String words) {
+        sentences++;
+        sentence = where + " \"" + words + "\": ";
+    }
 
     void same(String what, long got, long due) {
         asked++;
@@ -34,9 +42,23 @@ final class Check {
         }
     }
 
+    /** A call that throws, and changes nothing. */
+    void refuses(String what, PageDisk disk, Class<?> due, Call call) {
+        String before = State.of(disk);
+        fails(what, due, call);
+        holds(what + " changes nothing", State.of(disk).equals(before));
+    }
+
+    /** A call that answers, and changes nothing. */
+    void keeps(String what, PageDisk disk, long due, Call call) {
+        String before = State.of(disk);
+        same(what, call.answer(), due);
+        holds(what + " changes nothing", State.of(disk).equals(before));
+    }
+
     private void tell(String text) {
         wrong++;
-        System.out.println(text);
+        System.out.println(sentence + text);
     }
 
     /** Every answer of space in one row, so that a test sees the whole state at once. */
@@ -46,8 +68,17 @@ final class Check {
         }
     }
 
+    /** All bytes of a sector of the disk. */
+    void sector(String what, PageDisk disk, int sector, int[] due) {
+        for (int at = 0; at < 64; at++) {
+            same(what + ", sector " + sector + ", byte " + at, disk.look(sector, at), due[at]);
+        }
+    }
+
     void done() {
-        System.out.println(wrong == 0 ? asked + " answers are as due" : wrong + " of " + asked + " answers are not as due");
+        String what = sentences == 0 ? "" : " (" + sentences + " sentences)";
+        System.out.println((wrong == 0 ? asked + " answers are as due" : wrong + " of " + asked + " answers are not as due")
+            + what);
         if (wrong != 0) {
             System.exit(1);
         }
