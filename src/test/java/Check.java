@@ -4,15 +4,25 @@ final class Check {
         long answer();
     }
 
+    interface Test {
+        void run();
+    }
+
     private int asked = 0;
     private int wrong = 0;
     private int sentences = 0;
     private String sentence = "";
 
-    /** The sentence of the document that the answers from here on test: a failure names it. */
-    void says(String where, String words) {
+    /** A sentence of the document with a test of its own: whatever that throws is a failure of this sentence alone. */
+    void sentence(String where, String words, Test test) {
         sentences++;
         sentence = where + " \"" + words + "\": ";
+        try {
+            test.run();
+        } catch (RuntimeException e) {
+            tell("the test was broken off by " + e);
+        }
+        sentence = "";
     }
 
     void same(String what, long got, long due) {

@@ -27,12 +27,6 @@ public final class DiskTest {
         }
     }
 
-    private static void bytes(String what, PageDisk disk, int sector, int[] due) {
-        for (int at = 0; at < 64; at++) {
-            CHECK.same(what + ", sector " + sector + ", byte " + at, disk.look(sector, at), due[at]);
-        }
-    }
-
     private static void whatASyncWrites() {
         PageDisk disk = new PageDisk(160);
         CHECK.same("sync of nothing", disk.sync(), 0);
@@ -44,11 +38,11 @@ public final class DiskTest {
         disk.end(515);
         CHECK.same("sync", disk.sync(), 3);
         CHECK.space("synced", disk, 160, 4, 0, 4, 0, 1, 0, 1, 1, 0);
-        bytes("piece", disk, 2, Craft.pieceBytes(2, 1, 515, 1, 255, 3));
-        bytes("end", disk, 3, Craft.endBytes(3, 1, 515, 1, 2));
-        bytes("head", disk, 1, Craft.headBytes(1, 1, 4));
-        bytes("no head yet", disk, 0, new int[64]);
-        bytes("nothing behind", disk, 4, new int[64]);
+        CHECK.sector("piece", disk, 2, Craft.pieceBytes(2, 1, 515, 1, 255, 3));
+        CHECK.sector("end", disk, 3, Craft.endBytes(3, 1, 515, 1, 2));
+        CHECK.sector("head", disk, 1, Craft.headBytes(1, 1, 4));
+        CHECK.sector("no head yet", disk, 0, new int[64]);
+        CHECK.sector("nothing behind", disk, 4, new int[64]);
     }
 
     private static void headsInTurn() {
@@ -59,11 +53,11 @@ public final class DiskTest {
         disk.state(0, 8);
         disk.row(1, 0x0102030405060708L);
         CHECK.same("sync 2", disk.sync(), 3);
-        bytes("row", disk, 2, Craft.rowBytes(2, 1, 200, -2));
-        bytes("state", disk, 3, Craft.stateBytes(3, 1, 0, 8));
-        bytes("row", disk, 4, Craft.rowBytes(4, 1, 1, 0x0102030405060708L));
-        bytes("head 2", disk, 0, Craft.headBytes(0, 2, 5));
-        bytes("head 1", disk, 1, Craft.headBytes(1, 1, 3));
+        CHECK.sector("row", disk, 2, Craft.rowBytes(2, 1, 200, -2));
+        CHECK.sector("state", disk, 3, Craft.stateBytes(3, 1, 0, 8));
+        CHECK.sector("row", disk, 4, Craft.rowBytes(4, 1, 1, 0x0102030405060708L));
+        CHECK.sector("head 2", disk, 0, Craft.headBytes(0, 2, 5));
+        CHECK.sector("head 1", disk, 1, Craft.headBytes(1, 1, 3));
     }
 
     private static void writesOverForgottenOnes() {
@@ -74,7 +68,7 @@ public final class DiskTest {
         disk.start();
         disk.state(0, 3);
         disk.sync();
-        bytes("what was forgotten leaves no byte", disk, 3, Craft.stateBytes(3, 2, 0, 3));
+        CHECK.sector("what was forgotten leaves no byte", disk, 3, Craft.stateBytes(3, 2, 0, 3));
     }
 
     private static void syncsAndLives() {
@@ -89,8 +83,8 @@ public final class DiskTest {
         CHECK.same("life", disk.space(7), 2);
         disk.row(2, 2);
         CHECK.same("sync", disk.sync(), 2);
-        bytes("the second life", disk, 3, Craft.rowBytes(3, 2, 2, 2));
-        bytes("its head has life 0", disk, 0, Craft.headBytes(0, 2, 4));
+        CHECK.sector("the second life", disk, 3, Craft.rowBytes(3, 2, 2, 2));
+        CHECK.sector("its head has life 0", disk, 0, Craft.headBytes(0, 2, 4));
         disk.cut(0, 0);
         disk.start();
         CHECK.same("life", disk.space(7), 3);
@@ -126,9 +120,9 @@ public final class DiskTest {
             int[] due = new int[64];
             System.arraycopy(Craft.rowBytes(3, 1, 254, -2), 0, due, 0, tear);
             due[4] = tear > 0 ? 255 : 0;
-            bytes("torn behind " + tear, disk, 3, due);
-            bytes("whole", disk, 2, Craft.rowBytes(2, 1, 255, -1));
-            bytes("no head", disk, 1, new int[64]);
+            CHECK.sector("torn behind " + tear, disk, 3, due);
+            CHECK.sector("whole", disk, 2, Craft.rowBytes(2, 1, 255, -1));
+            CHECK.sector("no head", disk, 1, new int[64]);
             CHECK.same("start", disk.start(), 0);
             CHECK.space("one came", disk, 20, 3, 0, 2, 1, 0, 0, 2, 0, 0);
             CHECK.same("the torn one is not acknowledged, so not wrong", disk.wrong(-1), 0);
@@ -145,7 +139,7 @@ public final class DiskTest {
         CHECK.same("the row comes, the head is torn", disk.cut(1, 1), 1);
         int[] due = Craft.headBytes(1, 1, 3);
         due[4] = 255;
-        bytes("torn head over the one that was there", disk, 1, due);
+        CHECK.sector("torn head over the one that was there", disk, 1, due);
         disk.start();
         CHECK.space("head 2 tells", disk, 20, 5, 0, 4, 3, 0, 0, 2, 2, 0);
         disk.row(4, 4);
@@ -154,7 +148,7 @@ public final class DiskTest {
         CHECK.space("head 2 tells still", disk, 20, 6, 0, 4, 4, 0, 0, 3, 2, 0);
         disk.row(5, 5);
         CHECK.same("keep fits just so", disk.cut(2, 63), 2);
-        bytes("head 3", disk, 1, Craft.headBytes(1, 3, 7));
+        CHECK.sector("head 3", disk, 1, Craft.headBytes(1, 3, 7));
         disk.start();
         CHECK.space("head 3 tells", disk, 20, 7, 0, 7, 5, 0, 0, 4, 3, 0);
     }

@@ -1,15 +1,10 @@
 import java.util.Arrays;
 
-/** The sentences of "Terms" on WRITES, SYNC, FILES, ROOM and CUT, one by one. */
+/** The sentences of "Terms" on WRITES, SYNC, FILES, ROOM and CUT, each with its own test. */
 public final class TermsOfWritesTest {
     private static final Check CHECK = new Check();
 
-    private static void says(String sentence) {
-        CHECK.says("Terms", sentence);
-    }
-
     private static void writes() {
-        says("WRITES go behind those before, from SECTOR 2 on");
         PageDisk disk = new PageDisk(8);
         disk.row(1, 10);
         CHECK.same("up to the end behind one", disk.space(1), 3);
@@ -21,18 +16,26 @@ public final class TermsOfWritesTest {
         for (int sector = 2; sector < 5; sector++) {
             CHECK.sector("row", disk, sector, Craft.rowBytes(sector, 1, 1, 10 * (sector - 1)));
         }
-        says("with the LIFE of now");
+    }
+
+    private static void lives() {
+        PageDisk disk = Given.rows(8, 1);
+        disk.sync();
         disk.cut(0, 0);
         disk.start();
         disk.state(0, 5);
+        disk.row(6, 7);
         disk.sync();
-        CHECK.sector("in the second life", disk, 5, Craft.stateBytes(5, 2, 0, 5));
+        CHECK.sector("in the second life", disk, 3, Craft.stateBytes(3, 2, 0, 5));
+        CHECK.sector("in the second life", disk, 4, Craft.rowBytes(4, 2, 6, 7));
         PageDisk late = Given.started(20, craft -> craft.row(2, 65534, 1, 1));
         Given.version(late, 3, 1);
         late.sync();
         CHECK.sector("a piece in the last life", late, 3, Craft.pieceBytes(3, 65535, 3, 1, 1));
         CHECK.sector("an end in the last life", late, 4, Craft.endBytes(4, 65535, 3, 1, 1));
-        says("they WAIT until a sync");
+    }
+
+    private static void waiting() {
         PageDisk waits = new PageDisk(8);
         Given.version(waits, 3, 1);
         waits.row(1, 1);
@@ -46,7 +49,6 @@ public final class TermsOfWritesTest {
     }
 
     private static void syncs() {
-        says("A SYNC brings all that WAIT to the disk, in order, then a HEAD of the next GENERATION");
         for (int keep = 0; keep <= 4; keep++) {
             PageDisk disk = Given.rows(8, 3);
             disk.cut(keep, 0);
@@ -61,7 +63,9 @@ public final class TermsOfWritesTest {
             CHECK.sector("row", all, sector, Craft.rowBytes(sector, 1, 1, sector - 2));
         }
         CHECK.sector("the head", all, 1, Craft.headBytes(1, 1, 5));
-        says("(0 behind 999999999; 1 the first one)");
+    }
+
+    private static void generations() {
         PageDisk first = Given.rows(8, 1);
         CHECK.same("none was written", first.space(8), 0);
         first.sync();
@@ -83,7 +87,6 @@ public final class TermsOfWritesTest {
     }
 
     private static void headsInTurn() {
-        says("in SECTOR GENERATION modulo 2, with LIFE 0");
         PageDisk disk = Given.started(20, craft -> craft.row(2, 300, 1, 1));
         for (int generation = 1; generation < 4; generation++) {
             disk.row(1, 1);
@@ -92,7 +95,9 @@ public final class TermsOfWritesTest {
             CHECK.sector("head", disk, sector, Craft.headBytes(sector, generation, 3 + generation));
         }
         CHECK.sector("the one before is still there", disk, 0, Craft.headBytes(0, 2, 5));
-        says("then all are ACKNOWLEDGED");
+    }
+
+    private static void acknowledged() {
         PageDisk late = Given.rows(20, 3);
         late.cut(2, 0);
         late.start();
@@ -108,7 +113,6 @@ public final class TermsOfWritesTest {
     }
 
     private static void syncsOfNothing() {
-        says("With none that WAIT it does nothing");
         PageDisk fresh = new PageDisk(8);
         CHECK.keeps("the sync of a new disk", fresh, 0, fresh::sync);
         PageDisk synced = Given.rows(8, 2);
@@ -127,8 +131,7 @@ public final class TermsOfWritesTest {
         CHECK.keeps("the sync behind the last generation", last, 0, last::sync);
     }
 
-    private static void files() {
-        says("FILES are OPEN (6 at most) or not");
+    private static void sixFiles() {
         PageDisk disk = new PageDisk(40);
         for (int name = 0; name < 6; name++) {
             CHECK.same("file " + name, disk.file(name), 1);
@@ -139,14 +142,18 @@ public final class TermsOfWritesTest {
         CHECK.same("one less", disk.space(6), 5);
         CHECK.same("a sixth again", disk.file(6), 1);
         CHECK.keeps("a seventh again", disk, 0, () -> disk.file(0));
-        says("An OPEN one's bytes are written as a PIECE as soon as there are 50");
+    }
+
+    private static void fullPieces() {
         PageDisk bytes = new PageDisk(20);
         bytes.file(1);
         for (int i = 1; i <= 151; i++) {
             bytes.append(1, (byte) i);
             CHECK.same("written behind byte " + i, bytes.space(2), i / 50);
         }
-        says("the rest, and the END, when it ends: it is a VERSION then, WHOLE");
+    }
+
+    private static void restAndEnd() {
         int[] sizes = {0, 1, 49, 50, 51, 99, 100, 101};
         for (int size : sizes) {
             PageDisk one = new PageDisk(20);
@@ -168,38 +175,20 @@ public final class TermsOfWritesTest {
         }
     }
 
-    private static void versions() {
-        says("Its VERSION is 1 above the greatest one of its NAME that was ever met (in a PIECE or END that was read, "
-            + "or by opening)");
-        PageDisk disk = Given.started(40, craft -> {
-            craft.piece(2, 1, 1, 40, 9);
-            craft.end(3, 1, 2, 30, 0);
-            craft.end(4, 1, 3, 20, 0);
-            craft.end(5, 1, 3, 10, 0);
-            craft.end(6, 1, 4, 50, 7);
-            craft.piece(7, 1, 5, 60, 9);
-            craft.end(8, 1, 5, 5, 0);
-        });
+    private static void nextVersion() {
+        PageDisk disk = new PageDisk(40);
         CHECK.same("none was met", disk.file(0), 1);
         disk.end(0);
         CHECK.same("by opening", disk.file(0), 2);
         disk.end(0);
         CHECK.same("by opening again", disk.file(0), 3);
-        disk.end(0);
-        CHECK.same("in a piece", disk.file(1), 41);
-        CHECK.same("in an end", disk.file(2), 31);
-        CHECK.same("the greatest one, not the last", disk.file(3), 21);
-        disk.end(1);
-        disk.end(2);
-        disk.end(3);
-        CHECK.same("in an end of a torn one", disk.file(4), 51);
-        CHECK.same("in a piece without an end, above one that ended", disk.file(5), 61);
+        CHECK.same("another name", disk.file(1), 1);
         PageDisk full = new PageDisk(8);
         full.file(1);
         full.file(2);
         full.file(3);
         full.end(1);
-        CHECK.same("an opening that is refused", full.file(4), 0);
+        CHECK.same("an opening without room", full.file(4), 0);
         full.cut(0, 0);
         full.start();
         CHECK.same("was never met", full.file(4), 1);
@@ -211,6 +200,31 @@ public final class TermsOfWritesTest {
         CHECK.same("a seventh that is refused", six.file(6), 0);
         six.end(0);
         CHECK.same("was not met", six.file(6), 1);
+    }
+
+    private static void versionsThatWereRead() {
+        PageDisk disk = Given.started(40, craft -> {
+            craft.head(1, 1, 10);
+            craft.piece(2, 1, 1, 40, 9);
+            craft.end(3, 1, 2, 30, 0);
+            craft.end(4, 1, 3, 20, 0);
+            craft.end(5, 1, 3, 10, 0);
+            craft.end(6, 1, 4, 50, 7);
+            craft.piece(7, 1, 5, 60, 9);
+            craft.end(8, 1, 5, 5, 0);
+            int[] spoilt = Craft.endBytes(9, 1, 6, 70, 0);
+            spoilt[63] ^= 1;
+            craft.put(9, spoilt);
+        });
+        CHECK.same("in a piece", disk.file(1), 41);
+        CHECK.same("in an end", disk.file(2), 31);
+        CHECK.same("the greatest one, not the last", disk.file(3), 21);
+        disk.end(1);
+        disk.end(2);
+        disk.end(3);
+        CHECK.same("in an end of a torn one", disk.file(4), 51);
+        CHECK.same("in a piece without an end, above one that ended", disk.file(5), 61);
+        CHECK.same("not in one that is wrong", disk.file(6), 1);
     }
 
     /** Rows fill what the needs leave, so that the rows that fit in tell the needs. */
@@ -229,8 +243,7 @@ public final class TermsOfWritesTest {
         return disk;
     }
 
-    private static void roomThatIsNeeded() {
-        says("ROOM: each OPEN file needs a SECTOR for its END");
+    private static void roomForEnds() {
         needs("no file", new PageDisk(16), 0);
         needs("an empty one", open(0), 1);
         PageDisk six = new PageDisk(16);
@@ -245,7 +258,9 @@ public final class TermsOfWritesTest {
         forgotten.cut(0, 0);
         forgotten.start();
         needs("one that was forgotten", forgotten, 0);
-        says("and one for bytes that are not written yet, if there are some");
+    }
+
+    private static void roomForRests() {
         needs("1 byte", open(1), 2);
         needs("49 bytes", open(49), 2);
         needs("50 bytes, all written", open(50), 1);
@@ -263,8 +278,6 @@ public final class TermsOfWritesTest {
     }
 
     private static void roomToOpen() {
-        says("A file opens, or takes a byte that is the first of a PIECE, only if behind that all these needs and 3 more "
-            + "SECTORS fit in");
         for (int sectors = 8; sectors <= 12; sectors++) {
             for (int rows = 0; rows <= sectors - 2; rows++) {
                 PageDisk disk = Given.rows(sectors, rows);
@@ -284,7 +297,6 @@ public final class TermsOfWritesTest {
     }
 
     private static void roomForFirstBytes() {
-        says("takes a byte that is the first of a PIECE");
         for (int sectors = 8; sectors <= 12; sectors++) {
             for (int rows = 0; rows <= sectors - 3; rows++) {
                 PageDisk disk = new PageDisk(sectors);
@@ -314,14 +326,18 @@ public final class TermsOfWritesTest {
         CHECK.same("up to the end", full.space(1), 8);
     }
 
+    private static PageDisk emptyFiles(int open) {
+        PageDisk disk = new PageDisk(10);
+        for (int name = 0; name < open; name++) {
+            disk.file(name);
+        }
+        return disk;
+    }
+
     private static void roomForRows() {
-        says("a ROW or STATE, if the needs fit in behind it");
         for (int open = 0; open < 3; open++) {
-            PageDisk disk = new PageDisk(10);
-            for (int name = 0; name < open; name++) {
-                disk.file(name);
-            }
             int most = 8 - open;
+            PageDisk disk = emptyFiles(open);
             for (int i = 0; i < most - 1; i++) {
                 CHECK.same("row " + i + " beside " + open, disk.row(1, 1), i);
             }
@@ -329,10 +345,7 @@ public final class TermsOfWritesTest {
             CHECK.keeps("a state more", disk, -1, () -> disk.state(0, 8));
             CHECK.keeps("a row more", disk, -1, () -> disk.row(1, 1));
             CHECK.same("the state", disk.job(0, 2), 7);
-            PageDisk rows = new PageDisk(10);
-            for (int name = 0; name < open; name++) {
-                rows.file(name);
-            }
+            PageDisk rows = emptyFiles(open);
             for (int i = 0; i < most; i++) {
                 CHECK.same("row " + i + " beside " + open, rows.row(1, 1), i);
             }
@@ -341,8 +354,7 @@ public final class TermsOfWritesTest {
         }
     }
 
-    private static void cutsOfWrites() {
-        says("of the writes that WAIT and the HEAD of a SYNC (none when none WAIT)");
+    private static void cutOfNone() {
         PageDisk none = Given.rows(8, 1);
         none.sync();
         none.file(1);
@@ -351,25 +363,23 @@ public final class TermsOfWritesTest {
         CHECK.sector("head 1 is as it was", none, 1, Craft.headBytes(1, 1, 3));
         CHECK.sector("no head 2 is torn", none, 0, new int[64]);
         CHECK.sector("no write is torn", none, 3, new int[64]);
-        says("so many come to the disk whole");
+    }
+
+    private static void keptWrites() {
         for (int keep = 0; keep < 6; keep++) {
-            CHECK.same("keep " + keep + " of 3 and a head", Given.rows(8, 3).cut(keep, 0), Math.min(keep, 4));
+            PageDisk disk = Given.rows(8, 3);
+            CHECK.same("keep " + keep + " of 3 and a head", disk.cut(keep, 0), Math.min(keep, 4));
+            disk.start();
+            CHECK.same("rows of " + keep, disk.space(4), Math.min(keep, 3));
+            CHECK.same("acknowledged of " + keep, disk.space(3), keep < 4 ? 2 : 5);
         }
         CHECK.same("keep MAX", Given.rows(8, 3).cut(Integer.MAX_VALUE, 63), 4);
         CHECK.same("keep none of a full disk", Given.rows(8, 6).cut(0, 0), 0);
         CHECK.same("keep all of a full disk", Given.rows(8, 6).cut(9, 0), 7);
-        says("the others not at all");
-        PageDisk two = Given.rows(8, 4);
-        two.cut(1, 20);
-        for (int sector = 4; sector < 6; sector++) {
-            CHECK.sector("behind the torn one", two, sector, new int[64]);
-        }
-        CHECK.sector("no head", two, 1, new int[64]);
     }
 
     /** The sector had bytes before, so that those that do not come can be told from 0. */
     private static void tornWrites() {
-        says("of the next one its first bytes alone (so many), and, if there are any, 255 as its KIND (it is not GOOD then)");
         for (int tear = 0; tear < 64; tear++) {
             PageDisk disk = Given.rows(8, 2);
             for (int at = 0; at < 64; at++) {
@@ -381,9 +391,10 @@ public final class TermsOfWritesTest {
             System.arraycopy(Craft.rowBytes(3, 1, 1, 1), 0, due, 0, tear);
             due[4] = tear > 0 ? 255 : 170;
             CHECK.sector("torn behind " + tear, disk, 3, due);
-            disk.start();
-            CHECK.same("up to the end, torn behind " + tear, disk.space(1), 3);
         }
+    }
+
+    private static void tornHeads() {
         int[] tears = {0, 1, 4, 5, 12, 63};
         for (int tear : tears) {
             PageDisk disk = Given.rows(8, 1);
@@ -399,6 +410,17 @@ public final class TermsOfWritesTest {
             disk.start();
             CHECK.same("the other head tells", disk.space(8), 2);
         }
+    }
+
+    private static void tornOnesAreNotGood() {
+        int[] tears = {1, 4, 5, 63};
+        for (int tear : tears) {
+            PageDisk disk = Given.rows(8, 2);
+            disk.cut(1, tear);
+            CHECK.same("the kind of one torn behind " + tear, disk.look(3, 4), 255);
+            disk.start();
+            CHECK.same("up to the end, torn behind " + tear, disk.space(1), 3);
+        }
         PageDisk same = Given.rows(8, 1);
         same.cut(1, 0);
         same.poke(2, 0, 1);
@@ -407,10 +429,20 @@ public final class TermsOfWritesTest {
         same.poke(2, 0, 1);
         CHECK.same("bytes that are there already", same.cut(0, 63), 0);
         CHECK.same("get 255 as their kind, too", same.look(2, 4), 255);
+        same.start();
+        CHECK.same("and are not found", same.space(1), 2);
+    }
+
+    private static void othersNotAtAll() {
+        PageDisk two = Given.rows(8, 4);
+        two.cut(1, 20);
+        for (int sector = 4; sector < 6; sector++) {
+            CHECK.sector("behind the torn one", two, sector, new int[64]);
+        }
+        CHECK.sector("no head", two, 1, new int[64]);
     }
 
     private static void forgotten() {
-        says("Everything else is forgotten");
         PageDisk disk = Given.rows(20, 1);
         disk.sync();
         disk.row(2, 2);
@@ -427,30 +459,54 @@ public final class TermsOfWritesTest {
         CHECK.same("a file that was open", disk.file(2), 1);
         disk.end(2);
         CHECK.same("its bytes", disk.size(2, 1), 0);
-        says("and the disk is SHUT, until a START");
+    }
+
+    private static void shutUntilAStart() {
+        PageDisk disk = new PageDisk(8);
         CHECK.same("not shut", disk.space(9), 0);
         disk.cut(0, 0);
         CHECK.same("shut", disk.space(9), 1);
         CHECK.fails("a row", IllegalStateException.class, () -> disk.row(1, 1));
         disk.start();
         CHECK.same("not shut again", disk.space(9), 0);
-        CHECK.same("a row", disk.row(1, 1), 1);
+        CHECK.same("a row", disk.row(1, 1), 0);
+    }
+
+    private static void says(String words, Check.Test test) {
+        CHECK.sentence("Terms", words, test);
     }
 
     public static void main(String[] args) {
-        writes();
-        syncs();
-        headsInTurn();
-        syncsOfNothing();
-        files();
-        versions();
-        roomThatIsNeeded();
-        roomToOpen();
-        roomForFirstBytes();
-        roomForRows();
-        cutsOfWrites();
-        tornWrites();
-        forgotten();
+        says("WRITES go behind those before, from SECTOR 2 on", TermsOfWritesTest::writes);
+        says("with the LIFE of now", TermsOfWritesTest::lives);
+        says("they WAIT until a sync", TermsOfWritesTest::waiting);
+        says("A SYNC brings all that WAIT to the disk, in order, then a HEAD of the next GENERATION",
+            TermsOfWritesTest::syncs);
+        says("(0 behind 999999999; 1 the first one)", TermsOfWritesTest::generations);
+        says("in SECTOR GENERATION modulo 2, with LIFE 0", TermsOfWritesTest::headsInTurn);
+        says("then all are ACKNOWLEDGED", TermsOfWritesTest::acknowledged);
+        says("With none that WAIT it does nothing", TermsOfWritesTest::syncsOfNothing);
+        says("FILES are OPEN (6 at most) or not", TermsOfWritesTest::sixFiles);
+        says("An OPEN one's bytes are written as a PIECE as soon as there are 50", TermsOfWritesTest::fullPieces);
+        says("the rest, and the END, when it ends: it is a VERSION then, WHOLE", TermsOfWritesTest::restAndEnd);
+        says("Its VERSION is 1 above the greatest one of its NAME that was ever met", TermsOfWritesTest::nextVersion);
+        says("(in a PIECE or END that was read, or by opening)", TermsOfWritesTest::versionsThatWereRead);
+        says("ROOM: each OPEN file needs a SECTOR for its END", TermsOfWritesTest::roomForEnds);
+        says("and one for bytes that are not written yet, if there are some", TermsOfWritesTest::roomForRests);
+        says("A file opens, [..] only if behind that all these needs and 3 more SECTORS fit in",
+            TermsOfWritesTest::roomToOpen);
+        says("or takes a byte that is the first of a PIECE, only if behind that all these needs and 3 more SECTORS fit in",
+            TermsOfWritesTest::roomForFirstBytes);
+        says("a ROW or STATE, if the needs fit in behind it", TermsOfWritesTest::roomForRows);
+        says("of the writes that WAIT and the HEAD of a SYNC (none when none WAIT)", TermsOfWritesTest::cutOfNone);
+        says("so many come to the disk whole", TermsOfWritesTest::keptWrites);
+        says("of the next one its first bytes alone (so many), and, if there are any, 255 as its KIND",
+            TermsOfWritesTest::tornWrites);
+        says("and the HEAD of a SYNC [..] of the next one its first bytes alone (so many)", TermsOfWritesTest::tornHeads);
+        says("(it is not GOOD then)", TermsOfWritesTest::tornOnesAreNotGood);
+        says("the others not at all", TermsOfWritesTest::othersNotAtAll);
+        says("Everything else is forgotten", TermsOfWritesTest::forgotten);
+        says("and the disk is SHUT, until a START", TermsOfWritesTest::shutUntilAStart);
         CHECK.done();
     }
 }

@@ -1,11 +1,23 @@
+import java.io.IOException;
+import java.lang.reflect.Method;
+import java.nio.file.Files;
+import java.nio.file.Path;
 import java.util.ArrayList;
+import java.util.HashMap;
+import java.util.HashSet;
 import java.util.LinkedHashMap;
 import java.util.List;
 import java.util.Map;
 import java.util.NoSuchElementException;
+import java.util.Set;
 import java.util.function.Supplier;
+import java.util.regex.Matcher;
+import java.util.regex.Pattern;
 
-/** The last sentence of "Terms", on calls that throw, in every state that a disk can be in. */
+/**
+ * The last sentence of "Terms", on calls that throw, in every state that a disk can be in; run from the project's
+ * folder, as .ci/run does.
+ */
 public final class ThrowsTest {
     private static final Check CHECK = new Check();
     private static final int[] ODD = {Integer.MIN_VALUE, -65536, -257, -64, -2, -1, 0, 1, 2, 3, 6, 7, 8, 9, 10, 63, 64, 255,
@@ -17,6 +29,8 @@ public final class ThrowsTest {
 
     private static final Map<String, List<OnDisk>> CALLS = new LinkedHashMap<>();
     private static final Map<String, Supplier<PageDisk>> STATES = new LinkedHashMap<>();
+    private static final Map<String, List<Class<?>>> DECLARED = new HashMap<>();
+    private static final Set<String> WRITTEN = new HashSet<>();
 
     private static void add(String name, OnDisk call) {
         CALLS.computeIfAbsent(name, k -> new ArrayList<>()).add(call);
@@ -44,6 +58,17 @@ public final class ThrowsTest {
         }
         add("sync", PageDisk::sync);
         add("start", PageDisk::start);
+    }
+
+    private static void exceptions() throws IOException {
+        for (Method method : PageDisk.class.getMethods()) {
+            DECLARED.put(method.getName(), List.of(method.getExceptionTypes()));
+        }
+        String text = Files.readString(Path.of("src/main/java/PageDisk.java"));
+        Matcher written = Pattern.compile("throw new \\w+\\(\"([^\"]+)\"\\)").matcher(text);
+        while (written.find()) {
+            WRITTEN.add(written.group(1));
+        }
     }
 
     private static PageDisk busy() {
@@ -86,24 +111,31 @@ public final class ThrowsTest {
         });
     }
 
-    private static boolean isThrown(PageDisk disk, OnDisk call) {
+    /** By its class alone an exception of the machine could pass for one of the document's. */
+    private static void isTheDocuments(String name, RuntimeException e) {
+        CHECK.holds(name + " names " + e, DECLARED.get(name).contains(e.getClass()));
+        CHECK.holds(name + " throws with a written text, not " + e, WRITTEN.contains(e.getMessage()));
+    }
+
+    private static boolean isThrown(String name, PageDisk disk, OnDisk call) {
         try {
             call.call(disk);
             return false;
         } catch (RuntimeException e) {
+            isTheDocuments(name, e);
             return true;
         }
     }
 
     /** How many of the calls throw on disks in this state. */
-    private static int thrown(String what, Supplier<PageDisk> state, List<OnDisk> calls) {
+    private static int thrown(String name, Supplier<PageDisk> state, List<OnDisk> calls) {
         int thrown = 0;
         PageDisk disk = state.get();
         String before = State.of(disk);
         for (OnDisk call : calls) {
-            if (isThrown(disk, call)) {
+            if (isThrown(name, disk, call)) {
                 thrown++;
-                CHECK.holds(what, State.of(disk).equals(before));
+                CHECK.holds(name + " changes nothing", State.of(disk).equals(before));
             } else {
                 disk = state.get();
             }
@@ -112,18 +144,16 @@ public final class ThrowsTest {
     }
 
     private static void changesNothing() {
-        CHECK.says("Terms", "A call that throws changes nothing");
         for (Map.Entry<String, List<OnDisk>> calls : CALLS.entrySet()) {
             int thrown = 0;
-            for (Map.Entry<String, Supplier<PageDisk>> state : STATES.entrySet()) {
-                thrown += thrown(calls.getKey() + ", " + state.getKey(), state.getValue(), calls.getValue());
+            for (Supplier<PageDisk> state : STATES.values()) {
+                thrown += thrown(calls.getKey(), state, calls.getValue());
             }
             CHECK.holds(calls.getKey() + " throws at all", thrown > 0);
         }
     }
 
     private static void theFirstNamed() {
-        CHECK.says("Terms", "where several exceptions that a call names fit, it is the one that it names first");
         String[] shut = {"shut", "shut again"};
         for (String state : shut) {
             PageDisk disk = STATES.get(state).get();
@@ -148,11 +178,13 @@ public final class ThrowsTest {
         }
     }
 
-    public static void main(String[] args) {
+    public static void main(String[] args) throws IOException {
+        exceptions();
         calls();
         states();
-        changesNothing();
-        theFirstNamed();
+        CHECK.sentence("Terms", "A call that throws changes nothing", ThrowsTest::changesNothing);
+        CHECK.sentence("Terms", "where several exceptions that a call names fit, it is the one that it names first",
+            ThrowsTest::theFirstNamed);
         CHECK.done();
     }
 }
