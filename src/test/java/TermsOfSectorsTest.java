@@ -255,6 +255,13 @@ public final class TermsOfSectorsTest {
         good("state 9", state(1, 9));
         bad("state 10", state(1, 10));
         bad("state 255", state(1, 255));
+        PageDisk many = Given.rows(160, 150);
+        many.state(149, 7);
+        CHECK.same("all come", many.cut(151, 0), 151);
+        many.start();
+        CHECK.same("rows", many.space(4), 150);
+        CHECK.same("the state of row 149", many.job(149, 2), 7);
+        CHECK.same("the state of row 148", many.job(148, 2), 0);
     }
 
     private static void placesOfHeads() {

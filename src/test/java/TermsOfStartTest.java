@@ -28,6 +28,13 @@ public final class TermsOfStartTest {
         heads("far apart", 5, 999999999, head(0, 999999999, 5), head(1, 1, 9));
         heads("the last one and 0", 9, 999999999, head(0, 0, 5), head(1, 999999999, 9));
         heads("0 and the last one", 5, 999999999, head(0, 999999999, 5), head(1, 0, 9));
+        PageDisk wrapped = Given.started(20, craft -> craft.head(1, 999999999, 2));
+        wrapped.row(1, 1);
+        wrapped.sync();
+        CHECK.same("generation 0 is written", wrapped.space(8), 0);
+        wrapped.cut(0, 0);
+        wrapped.start();
+        CHECK.space("but the last one is greater", wrapped, 20, 3, 0, 2, 1, 0, 0, 2, 999999999, 0);
     }
 
     private static void goodHeads() {
